@@ -248,7 +248,8 @@ public final class NineBooks {
         int all = Integer.bitCount(left);
         int blank = books.blanksOf(left);
         // Both are told in parts of 16 all^pages, which cancels; one not blank shows her not false.
-        long asTrue = (SIXTEENTHS - doubt) * power(blank, blankPages) * power(all - blank, otherPages);
+        long likelyTrue = power(blank, blankPages) * power(all - blank, otherPages);
+        long asTrue = (SIXTEENTHS - doubt) * likelyTrue;
         long asFalse = otherPages > 0 ? 0 : doubt * power(all, blankPages);
         if (all == 0 || asTrue + asFalse == 0) {
             return refused(NOT);

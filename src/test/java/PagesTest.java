@@ -167,6 +167,10 @@ public final class PagesTest {
         x.back();
         x.back();
         Check.due("as many as are burnt", x.fourth(), 15);
+        NineBooks y = Check.with("8b8;3p.", "");
+        y.burn(0);
+        Check.due("the first was blank", fourthBy(y, 1, 1, 1), 1);
+        Check.due("it leaned", fourthBy(y, 2, 8, 1), 1);
     }
 
     private static void dueComing(NineBooks x, int seed, int set, int king) {
@@ -211,5 +215,15 @@ public final class PagesTest {
             dueComing(x, sale[1], sale[2], sale[3]);
         }
         Check.due("nothing is burnt by it", x.left(), 511);
+        NineBooks y = Check.with("9o.;9o.;9o.;9o.;9o.;9o.;9o.;9o.;9o.", "001;991");
+        y.set(0, 9);
+        y.set(1, 1);
+        dueComing(y, 714, 256, 1);
+        y.set(1, 9);
+        Check.fill(y, 0, 1, 2, 3, 4, 5, 6, 7, 8);
+        y.read(0);
+        dueComing(y, 2, NONE, NONE);
+        dueComing(y, 3, 1, 1);
+        dueComing(y, 6, NONE, NONE);
     }
 }

@@ -40,7 +40,9 @@ public final class SheetsTest {
             due(x, "48 items", x.sheet(s, s % 3, 48), 48, 1);
             due(x, "the first", x.get(s, s % 3, 0), 0, 1);
             due(x, "the last", x.get(s, s % 3, 47), 0, 1);
+            x.put(s, s % 3, 0, 7);
             x.put(s, s % 3, 1, 7);
+            x.put(s, s % 3, 47, 7);
         }
         due(x, "refused: as it was", x.sheet(1, INTS, -1), SIZE, 5);
         due(x, "its item", x.get(1, SHORTS, 1), 7, 5);
@@ -49,6 +51,7 @@ public final class SheetsTest {
         due(x, "others stay", x.get(2, INTS, 1), 7, 2);
         due(x, "a longer row", x.sheet(1, INTS, 48), 48, 2);
         due(x, "is new, too", x.get(1, INTS, 1), 0, 2);
+        due(x, "up to its end", x.get(1, INTS, 47), 0, 2);
         due(x, "no items", x.sheet(1, BYTES, 0), 0, 2);
         due(x, "it has none", x.lose(1), 0, 2);
     }

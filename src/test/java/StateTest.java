@@ -11,6 +11,8 @@ public final class StateTest {
         digestOfNone();
         digestOfSome();
         digestOfLess();
+        digestOfMany();
+        digestOfFaults();
         digestChangesNothing();
         Check.end();
     }
@@ -69,6 +71,8 @@ public final class StateTest {
         x.undo(1);
         Check.due("no kings by a fault", x.count(1), 0);
         Check.due("their bytes", x.count(3), 6);
+        Check.due("the ninth is blank",
+            Check.with("1o.;1o.;1o.;1o.;1o.;1o.;1o.;1o.;1b.", "").count(7), 1);
         Check.due("kinds by kind alone", Check.with("0b8;0o.;0p.;5b.", "").count(7), 2);
     }
 
@@ -109,6 +113,24 @@ public final class StateTest {
             99, 1, 5, 0, 0, 1, 0, 1, 0, 1, 0, 1, BAD, BAD,
             99, 1, 5, 0, 0, 1, 0, 1, 0, 1, 0, 1, 1, 5,
             0, 0, 5, NONE, NONE, NOT, NOT, 1, NONE, NONE));
+    }
+
+    private static void digestOfMany() {
+        NineBooks x = Check.with("9o.;9o.;9o.;9o.;9o.;9o.;9o.;9o.;9o.", "201;991;501");
+        x.set(0, 27);
+        x.set(1, 1);
+        Check.due("digest of many", x.digest(), fold(9, 3, 35, 11, 0, 0, 0, 0, -1, -1,
+            9, 0, -1, 9, 0, -1, 9, 0, -1, 9, 0, -1, 9, 0, -1, 9, 0, -1, 9, 0, -1, 9, 0, -1, 9, 0, -1,
+            20, 1, 81, 0, 0, 1, 0, 1, 20, 1, 20, 1, BAD, BAD,
+            99, 1, 81, 2, 54, 1, 1, 1, 20, 1, 81, 1, 0, 20,
+            50, 1, 81, 2, 54, 1, 1, 1, 20, 1, 50, 1, 0, 20,
+            511, 81, 0, 1, 0, 1, 2, 0, 479, 2));
+    }
+
+    private static void digestOfFaults() {
+        NineBooks x = Check.with("1o", "123;");
+        Check.due("digest of faults", x.digest(), fold(0, 0, 2, 4, 0, 0, 0, 0, 2, 4,
+            0, 0, 0, NONE, NONE, NOT, NOT, 0, NONE, NONE));
     }
 
     private static void digestChangesNothing() {

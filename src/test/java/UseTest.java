@@ -86,6 +86,10 @@ public final class UseTest {
         NineBooks y = Check.with("2o.;2o.;4o.;4o.", "");
         Check.due("fewer before less bits", y.enough(4), 4);
         Check.due("less bits of like ones", y.enough(6), 5);
+        NineBooks nine = Check.with("9o.;9o.;9o.;9o.;9o.;9o.;9o.;9o.;9o.", "");
+        Check.due("all nine are enough", nine.enough(81), 511);
+        Check.due("all nine are not", nine.enough(82), NONE);
+        Check.due("eight of nine", nine.enough(72), 255);
         Check.due("no books, 0", new NineBooks().enough(0), 0);
         Check.due("no books, 1", new NineBooks().enough(1), NONE);
     }
@@ -106,6 +110,7 @@ public final class UseTest {
         Check.due("none is left", x.dearest(), NONE);
         Check.due("no books", new NineBooks().dearest(), NONE);
         Check.due("the least of like ones", Check.with("1o.;4o.;4o.", "").dearest(), 1);
+        Check.due("the ninth", Check.with("1o.;1o.;1o.;1o.;1o.;1o.;1o.;1o.;2o.", "").dearest(), 8);
         Check.due("without use", Check.with("9b.;0o.", "").dearest(), 0);
     }
 }
