@@ -751,7 +751,7 @@ public final class NineBooks {
         }
 
         int dropLast() {
-            if (size <= 0) {
+            if (!within(size, 1, order.length)) {
                 return NOT;
             }
             size--;
@@ -871,7 +871,7 @@ public final class NineBooks {
 
         /** Whether there are n items from i on (of n 0, too: i no more than the size). */
         boolean hasItems(int i, int n) {
-            return within(i, 0, size) && within(n, 0, size - i);
+            return size <= items.length && within(i, 0, size) && within(n, 0, size - i);
         }
 
         int item(int i) {
